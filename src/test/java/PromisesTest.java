@@ -38,6 +38,8 @@ public final class PromisesTest {
         mean();
         digest();
         exceptionsInTheirOrder();
+        fullBook();
+        farBeyondTheLastCall();
         System.out.println(wrong == 0 ? "all promises hold" : wrong + " answers are wrong");
         if (wrong != 0) {
             System.exit(1);
@@ -346,6 +348,10 @@ public final class PromisesTest {
             int reaper = i;
             dueAll("wage of kind " + book.told(i, 0), parts[i], what -> book.wage(reaper, what));
         }
+        ReaperWages slow = bookOf(0);
+        slow.bind(0, 10);
+        slow.work(0, 9, false);
+        due("hours are nothing to the kind 0", 12, slow.wage(0, 2));
         book.pay();
         book.bind(1, 10);
         book.work(1, 3, false);
@@ -358,7 +364,11 @@ public final class PromisesTest {
         book.setRate(4, 9);
         due("taken back: 160 / 9", 17, book.wage(1, 4));
         due("the rest less 17", 143, book.wage(1, 5));
-        due("nothing was changed", 41, book.told(1, 4));
+        book.setRate(4, 1);
+        book.lend(1, 200);
+        due("taken back: all of 160", 160, book.wage(1, 4));
+        due("no rest", 0, book.wage(1, 5));
+        due("nothing was changed", 241, book.told(1, 4));
         refused("wage(0, 6)", INDEX, book, b -> b.wage(0, 6));
         refused("wage(0, -1)", INDEX, book, b -> b.wage(0, -1));
         refused("wage(4, 0)", INDEX, book, b -> b.wage(4, 0));
@@ -569,6 +579,13 @@ public final class PromisesTest {
         due("1080 by 12 hours", 90, few.advise());
         few.work(0, 0, true);
         due("1080 by 11 hours", 98, few.advise());
+        few.hire(2);
+        few.work(1, 16, false);
+        due("1080 by 11 and 16 hours", 40, few.advise());
+        ReaperWages cheap = bookOf(1);
+        cheap.bind(0, 10);
+        cheap.work(0, 6, false);
+        due("12 by 6 hours", 2, cheap.advise());
         ReaperWages noHours = bookOf(2);
         noHours.bind(0, 500);
         due("all are as even without hours", 1, noHours.advise());
@@ -640,6 +657,58 @@ public final class PromisesTest {
         refused("lend to nobody, nothing", INDEX, book, b -> b.lend(1, 0));
         refused("lend 2001 beyond 5000", ARGUMENT, book, b -> b.lend(0, 2001));
         refused("would of no rate to nothing", INDEX, book, b -> b.would(-1, -1));
+    }
+
+    private static void fullBook() {
+        ReaperWages book = bookOf(0, 0, 0, 0, 0, 0, 0, 0);
+        for (int i = 0; i < 8; i++) {
+            book.bind(i, 10 * (i + 1));
+            book.work(i, 1, false);
+            book.lend(i, 3);
+        }
+        due("the wages of eight", 12 * 36, book.count(5));
+        due("the debts of eight", 24, book.count(2));
+        due("would of eight", 36, book.would(0, 1));
+        due("advise of eight", 54, book.advise());
+        due("mean of eight", 54, (long) book.mean());
+        // Each has 12 for each ten sheaves, less 3.
+        due("lacks of eight", 3 * 36 - 8, book.lacks());
+        book.fill(2, 100);
+        due("coins of the eighth", 23, book.coins(7, 2));
+        due("until of the eighth", 1, book.until(7));
+        due("digest of eight", digestOf(book), book.digest());
+        due("pay eight", 4 * (3 * 36 - 8), book.pay());
+        due("carried on for eight", 8, book.count(3));
+        refused("told of a ninth", INDEX, book, b -> b.told(8, 0));
+        refused("wage of a ninth", INDEX, book, b -> b.wage(8, 0));
+        refused("coins of a ninth", INDEX, book, b -> b.coins(8, 0));
+        refused("until of a ninth", INDEX, book, b -> b.until(8));
+        refused("bind of a ninth", INDEX, book, b -> b.bind(8, 1));
+        refused("work of a ninth", INDEX, book, b -> b.work(8, 1, false));
+        refused("lend to a ninth", INDEX, book, b -> b.lend(8, 1));
+    }
+
+    /** What is answered then is free, but nothing that the document does not name may be thrown. */
+    private static void farBeyondTheLastCall() {
+        ReaperWages book = bookOf(0, 1, 2);
+        book.setRate(0, 40);
+        book.setRate(4, 1);
+        book.lend(2, 2000);
+        for (int i = 0; i < 2200000; i++) {
+            book.bind(2, 999);
+            book.fill(i % 3, 500);
+            if (i % 3000 == 0) {
+                book.lacks();
+                book.until(2);
+                book.advise();
+                book.mean();
+                book.digest();
+            }
+            if (i % 400000 == 399999) {
+                book.pay();
+            }
+        }
+        refused("told of no reaper", INDEX, book, b -> b.told(3, 0));
     }
 
     // ---- what the tests are told with
