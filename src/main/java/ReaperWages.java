@@ -243,22 +243,17 @@ public final class ReaperWages {
         for (int coin = 0; coin < COINS; coin++) {
             d = d * 31 + purse[coin];
         }
+        // The reapers' part has no method of its own: calls would go nine deep then.
         for (int i = 0; i < hired; i++) {
-            d = digestOfReaper(d, i);
-        }
-        return d;
-    }
-
-    private long digestOfReaper(long start, int reaper) {
-        long d = start;
-        for (int what = 0; what < TOLD; what++) {
-            d = d * 31 + told(reaper, what);
-        }
-        for (int what = 0; what < WAGE_PARTS; what++) {
-            d = d * 31 + wage(reaper, what);
-        }
-        for (int coin = 0; coin < COINS; coin++) {
-            d = d * 31 + coins(reaper, coin);
+            for (int what = 0; what < TOLD; what++) {
+                d = d * 31 + told(i, what);
+            }
+            for (int what = 0; what < WAGE_PARTS; what++) {
+                d = d * 31 + wage(i, what);
+            }
+            for (int coin = 0; coin < COINS; coin++) {
+                d = d * 31 + coins(i, coin);
+            }
         }
         return d;
     }

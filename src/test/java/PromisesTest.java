@@ -39,6 +39,7 @@ public final class PromisesTest {
         digest();
         exceptionsInTheirOrder();
         fullBook();
+        exampleOfTheReadme();
         farBeyondTheLastCall();
         System.out.println(wrong == 0 ? "all promises hold" : wrong + " answers are wrong");
         if (wrong != 0) {
@@ -686,6 +687,23 @@ public final class PromisesTest {
         refused("bind of a ninth", INDEX, book, b -> b.bind(8, 1));
         refused("work of a ninth", INDEX, book, b -> b.work(8, 1, false));
         refused("lend to a ninth", INDEX, book, b -> b.lend(8, 1));
+    }
+
+    /** The answers that README.md tells of its example. */
+    private static void exampleOfTheReadme() {
+        ReaperWages book = new ReaperWages();
+        int reaper = book.hire(0);
+        due("README, the reaper", 0, reaper);
+        book.bind(reaper, 450);
+        book.lend(reaper, 100);
+        book.fill(0, 5);
+        book.fill(2, 40);
+        due("README, the wage", 555, book.wage(reaper, 2));
+        due("README, what is taken back", 100, book.wage(reaper, 4));
+        due("README, half-crowns", 3, book.coins(reaper, 0));
+        due("README, pennies", 23, book.coins(reaper, 2));
+        due("README, what goes out", 452, book.pay());
+        due("README, what is carried on", 3, book.told(reaper, 5));
     }
 
     /** What is answered then is free, but nothing that the document does not name may be thrown. */
